@@ -66,6 +66,9 @@ public final class ModelTest {
     }
 
     private static final class Model {
+        // Pins, and 1, that have been found once: the same pins are asked for over and over.
+        private static final int[][][] KNOWN = new int[4][81][81];
+
         private int colours = 3;
         private int hidden = -1;
         private final List<Guess> guesses = new ArrayList<>();
@@ -84,8 +87,16 @@ public final class ModelTest {
             return all;
         }
 
-        /** Crosses out what fits: first the same places, then the same colours wherever they are. */
         private int pins(int guess, int code) {
+            int[] row = KNOWN[colours][guess];
+            if (row[code] == 0) {
+                row[code] = 1 + crossOut(guess, code);
+            }
+            return row[code] - 1;
+        }
+
+        /** Crosses out what fits: first the same places, then the same colours wherever they are. */
+        private int crossOut(int guess, int code) {
             StringBuilder a = new StringBuilder(text(guess));
             StringBuilder b = new StringBuilder(text(code));
             int pins = 0;
