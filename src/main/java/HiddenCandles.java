@@ -307,7 +307,7 @@ public final class HiddenCandles {
 
     private static void needPins(int black, int white) {
         // Without adding the two, which could wrap around.
-        if (black < 0 || white < 0 || black > PLACES || white > PLACES - black) {
+        if (black < 0 || white < 0 || white > PLACES - black) {
             throw new IllegalArgumentException("pins are 0 to 4 together");
         }
         if (black == PLACES - 1 && white == 1) {
