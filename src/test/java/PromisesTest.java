@@ -1,21 +1,10 @@
 import java.util.ArrayList;
 import java.util.List;
 
-/** Each promise of the document by itself: ordinary inputs, the edges it names, and wrong inputs. */
+/** Each promise of the document by ordinary inputs; BoundariesTest has the edges, and what is refused. */
 public final class PromisesTest {
-    private static final String INDEX = "IndexOutOfBoundsException";
-    private static final String ARGUMENT = "IllegalArgumentException";
-    private static final String STATE = "IllegalStateException";
-    private static final int[] NO_CODES_OF_THREE = {Integer.MIN_VALUE, -1, 81, Integer.MAX_VALUE};
-    private static final int[] NO_PLACES = {Integer.MIN_VALUE, -1, 4, Integer.MAX_VALUE};
-
     private static int promise = 0;
     private static int wrong = 0;
-
-    /** A call whose answer or exception is looked at. */
-    private interface Call {
-        Object run();
-    }
 
     public static void main(String[] args) {
         promise1();
@@ -52,32 +41,6 @@ public final class PromisesTest {
         }
     }
 
-    /** The call throws just this exception, and the object is as it was. */
-    private static void dueThrow(HiddenCandles x, String what, String exception, Call call) {
-        String before = state(x);
-        String thrown = "nothing";
-        try {
-            call.run();
-        } catch (RuntimeException e) {
-            thrown = e.getClass().getSimpleName();
-        }
-        due(what + " throws", thrown, exception);
-        due("the state behind " + what, state(x), before);
-    }
-
-    private static String state(HiddenCandles x) {
-        StringBuilder state = new StringBuilder();
-        for (int what = 0; what <= 6; what++) {
-            state.append(x.count(what)).append(' ');
-        }
-        for (int guess = 0; guess < x.count(2); guess++) {
-            for (int what = 0; what <= 5; what++) {
-                state.append(x.told(guess, what)).append(' ');
-            }
-        }
-        return state.append(possibles(x)).append(x.digest()).toString();
-    }
-
     private static List<Integer> possibles(HiddenCandles x) {
         List<Integer> possibles = new ArrayList<>();
         for (int place = 0; place < x.count(3); place++) {
@@ -89,15 +52,6 @@ public final class PromisesTest {
     private static HiddenCandles ofTwo() {
         HiddenCandles x = new HiddenCandles();
         x.setColours(2);
-        return x;
-    }
-
-    private static HiddenCandles full() {
-        HiddenCandles x = new HiddenCandles();
-        x.hide(5);
-        for (int i = 0; i < 12; i++) {
-            x.guess(i);
-        }
         return x;
     }
 
@@ -121,9 +75,6 @@ public final class PromisesTest {
         x.hide(80);
         x.guess(1);
         x.doubt(0, true);
-        for (int colours : new int[] {1, 0, 4, -2, Integer.MAX_VALUE, Integer.MIN_VALUE}) {
-            dueThrow(x, "setColours(" + colours + ")", ARGUMENT, () -> x.setColours(colours));
-        }
         due("setColours(3)", x.setColours(3), 3);
         due("count(2) with as many colours", x.count(2), 0);
         due("count(4) with as many colours", x.count(4), 0);
@@ -132,7 +83,6 @@ public final class PromisesTest {
         due("count(0)", x.count(0), 2);
         due("count(1)", x.count(1), 16);
         due("count(3)", x.count(3), 16);
-        dueThrow(x, "hide(16)", INDEX, () -> x.hide(16));
         due("hide(15)", x.hide(15), -1);
         x.guess(15);
         due("told(0, 3), doubted before setColours", x.told(0, 3), 0);
@@ -150,21 +100,12 @@ public final class PromisesTest {
         due("count(3) behind it", x.count(3), 1);
         due("isPossible(0) behind it", x.isPossible(0), false);
         due("hide(0) again", x.hide(0), 0);
-        for (int code : NO_CODES_OF_THREE) {
-            dueThrow(x, "hide(" + code + ")", INDEX, () -> x.hide(code));
-        }
         due("hide(1)", x.hide(1), 0);
     }
 
     private static void promise4() {
         promise = 4;
         HiddenCandles x = new HiddenCandles();
-        dueThrow(x, "swap(0, 1) without a code", STATE, () -> x.swap(0, 1));
-        dueThrow(x, "swap(2, 2) without a code", STATE, () -> x.swap(2, 2));
-        for (int place : NO_PLACES) {
-            dueThrow(x, "swap(" + place + ", 0) without a code", INDEX, () -> x.swap(place, 0));
-            dueThrow(x, "swap(0, " + place + ") without a code", INDEX, () -> x.swap(0, place));
-        }
         x.hide(1);
         x.guess(1);
         due("swap(0, 3)", x.swap(0, 3), 27);
@@ -174,10 +115,6 @@ public final class PromisesTest {
         due("swap(2, 2)", x.swap(2, 2), 3);
         due("swap(0, 3) of the same colour", x.swap(0, 3), 3);
         due("count(2)", x.count(2), 1);
-        for (int place : NO_PLACES) {
-            dueThrow(x, "swap(" + place + ", 3)", INDEX, () -> x.swap(place, 3));
-            dueThrow(x, "swap(3, " + place + ")", INDEX, () -> x.swap(3, place));
-        }
         due("hide(0)", x.hide(0), 3);
         HiddenCandles two = ofTwo();
         two.hide(6);
@@ -188,8 +125,6 @@ public final class PromisesTest {
     private static void promise5() {
         promise = 5;
         HiddenCandles x = new HiddenCandles();
-        dueThrow(x, "guess(0) without a code", STATE, () -> x.guess(0));
-        dueThrow(x, "guess(81) without a code", INDEX, () -> x.guess(81));
         x.hide(1);
         due("guess(1)", x.guess(1), 20);
         due("guess(3)", x.guess(3), 12);
@@ -200,33 +135,11 @@ public final class PromisesTest {
         due("count(3)", x.count(3), 1);
         due("told(1, 0)", x.told(1, 0), 3);
         due("told(4, 3)", x.told(4, 3), 0);
-        HiddenCandles full = full();
-        due("the twelfth is there", full.told(11, 0), 11);
-        dueThrow(full, "guess(0) behind twelve", STATE, () -> full.guess(0));
-        for (int code : NO_CODES_OF_THREE) {
-            dueThrow(full, "guess(" + code + ") behind twelve", INDEX, () -> full.guess(code));
-        }
-        full.doubt(11, true);
-        full.forget();
-        full.guess(9);
-        due("a guess in the place of a doubted one", full.told(11, 3), 0);
     }
 
     private static void promise6() {
         promise = 6;
         HiddenCandles x = new HiddenCandles();
-        int[][] noPins = {
-            {-1, 0}, {0, -1}, {5, 0}, {0, 5}, {3, 1}, {3, 2}, {4, 1}, {2, 3}, {-1, 5}, {5, -1},
-            {Integer.MAX_VALUE, 1}, {1, Integer.MAX_VALUE}, {Integer.MAX_VALUE, Integer.MAX_VALUE},
-            {Integer.MIN_VALUE, Integer.MIN_VALUE}, {Integer.MIN_VALUE, 4},
-        };
-        for (int[] pins : noPins) {
-            String call = "tell(0, " + pins[0] + ", " + pins[1] + ")";
-            dueThrow(x, call, ARGUMENT, () -> x.tell(0, pins[0], pins[1]));
-        }
-        for (int code : NO_CODES_OF_THREE) {
-            dueThrow(x, "tell(" + code + ", 9, 9)", INDEX, () -> x.tell(code, 9, 9));
-        }
         due("tell(0, 3, 0)", x.tell(0, 3, 0), 8);
         due("tell(1, 4, 0)", x.tell(1, 4, 0), 1);
         due("tell(1, 0, 4), which can't be", x.tell(1, 0, 4), 0);
@@ -245,15 +158,11 @@ public final class PromisesTest {
             due("black pins of guess " + i, y.told(i, 1), allPins[i][0]);
             due("white pins of guess " + i, y.told(i, 2), allPins[i][1]);
         }
-        dueThrow(y, "tell(0, 4, 0) behind twelve", STATE, () -> y.tell(0, 4, 0));
-        dueThrow(y, "tell(0, 3, 1) behind twelve", ARGUMENT, () -> y.tell(0, 3, 1));
-        dueThrow(y, "tell(81, 3, 1) behind twelve", INDEX, () -> y.tell(81, 3, 1));
     }
 
     private static void promise7() {
         promise = 7;
         HiddenCandles x = new HiddenCandles();
-        dueThrow(x, "doubt(0, true) without guesses", INDEX, () -> x.doubt(0, true));
         x.tell(0, 4, 0);
         x.tell(80, 4, 0);
         due("count(3)", x.count(3), 0);
@@ -266,29 +175,22 @@ public final class PromisesTest {
         due("count(6)", x.count(6), 2);
         due("doubt(0, false)", x.doubt(0, false), true);
         due("possible codes at last", possibles(x), List.of(0));
-        for (int guess : new int[] {Integer.MIN_VALUE, -1, 2, 11, 12, Integer.MAX_VALUE}) {
-            dueThrow(x, "doubt(" + guess + ", true)", INDEX, () -> x.doubt(guess, true));
-        }
     }
 
     private static void promise8() {
         promise = 8;
         HiddenCandles x = new HiddenCandles();
-        dueThrow(x, "forget() without guesses", STATE, x::forget);
         x.hide(40);
         x.tell(7, 4, 0);
         x.tell(8, 4, 0);
         due("forget()", x.forget(), 8);
         due("possible codes then", possibles(x), List.of(7));
-        dueThrow(x, "told(1, 0)", INDEX, () -> x.told(1, 0));
         x.doubt(0, true);
         due("forget() of a doubted one", x.forget(), 7);
         due("count(3)", x.count(3), 81);
         due("count(4)", x.count(4), 1);
         due("count(6)", x.count(6), 0);
-        dueThrow(x, "forget() behind the last", STATE, x::forget);
         due("tell(6, 4, 0) in its place counts", x.tell(6, 4, 0), 1);
-        due("forget() of the twelfth", full().forget(), 11);
     }
 
     private static void promise9() {
@@ -298,20 +200,11 @@ public final class PromisesTest {
         for (int place = 0; place < 4; place++) {
             due("colour(47, " + place + ")", x.colour(47, place), colours[place]);
             due("colour(80, " + place + ")", x.colour(80, place), 2);
-            int no = place;
-            dueThrow(x, "colour(81, " + place + ")", INDEX, () -> x.colour(81, no));
-        }
-        for (int code : NO_CODES_OF_THREE) {
-            dueThrow(x, "colour(" + code + ", 0)", INDEX, () -> x.colour(code, 0));
-        }
-        for (int place : NO_PLACES) {
-            dueThrow(x, "colour(0, " + place + ")", INDEX, () -> x.colour(0, place));
         }
         HiddenCandles two = ofTwo();
         due("colour(8, 0) of two", two.colour(8, 0), 1);
         due("colour(8, 3) of two", two.colour(8, 3), 0);
         due("colour(2, 2) of two", two.colour(2, 2), 1);
-        dueThrow(two, "colour(16, 0) of two", INDEX, () -> two.colour(16, 0));
     }
 
     private static void promise10() {
@@ -323,21 +216,14 @@ public final class PromisesTest {
             due("pins(" + row[0] + ", " + row[1] + ")", x.pins(row[0], row[1]), row[2]);
             due("pins(" + row[1] + ", " + row[0] + ")", x.pins(row[1], row[0]), row[2]);
         }
-        for (int code : NO_CODES_OF_THREE) {
-            dueThrow(x, "pins(" + code + ", 0)", INDEX, () -> x.pins(code, 0));
-            dueThrow(x, "pins(0, " + code + ")", INDEX, () -> x.pins(0, code));
-        }
         due("count(2) behind all", x.count(2), 0);
         HiddenCandles two = ofTwo();
         due("pins(5, 10) of two", two.pins(5, 10), 4);
-        dueThrow(two, "pins(0, 16) of two", INDEX, () -> two.pins(0, 16));
-        dueThrow(two, "pins(16, 0) of two", INDEX, () -> two.pins(16, 0));
     }
 
     private static void promise11() {
         promise = 11;
         HiddenCandles x = new HiddenCandles();
-        dueThrow(x, "told(0, 0) without guesses", INDEX, () -> x.told(0, 0));
         x.tell(0, 3, 0);
         x.tell(1, 4, 0);
         x.tell(1, 2, 2);
@@ -351,12 +237,6 @@ public final class PromisesTest {
         x.doubt(0, true);
         due("told(0, 4), all doubted so far", x.told(0, 4), 81);
         due("told(0, 5), doubted or not", x.told(0, 5), 8);
-        for (int what : new int[] {Integer.MIN_VALUE, -1, 6, Integer.MAX_VALUE}) {
-            dueThrow(x, "told(0, " + what + ")", INDEX, () -> x.told(0, what));
-        }
-        for (int guess : new int[] {Integer.MIN_VALUE, -1, 3, 12, Integer.MAX_VALUE}) {
-            dueThrow(x, "told(" + guess + ", 0)", INDEX, () -> x.told(guess, 0));
-        }
     }
 
     private static void promise12() {
@@ -371,9 +251,6 @@ public final class PromisesTest {
         for (int what = 0; what < due.length; what++) {
             due("count(" + what + ")", x.count(what), due[what]);
         }
-        for (int what : new int[] {Integer.MIN_VALUE, -1, 7, Integer.MAX_VALUE}) {
-            dueThrow(x, "count(" + what + ")", INDEX, () -> x.count(what));
-        }
     }
 
     private static void promise13() {
@@ -385,12 +262,8 @@ public final class PromisesTest {
         due("isPossible(1)", x.isPossible(1), true);
         due("isPossible(54)", x.isPossible(54), true);
         due("isPossible(4)", x.isPossible(4), false);
-        for (int code : NO_CODES_OF_THREE) {
-            dueThrow(x, "isPossible(" + code + ")", INDEX, () -> x.isPossible(code));
-        }
         HiddenCandles two = ofTwo();
         due("isPossible(15) of two", two.isPossible(15), true);
-        dueThrow(two, "isPossible(16) of two", INDEX, () -> two.isPossible(16));
     }
 
     private static void promise14() {
@@ -398,14 +271,8 @@ public final class PromisesTest {
         HiddenCandles x = new HiddenCandles();
         due("possible(0)", x.possible(0), 0);
         due("possible(80)", x.possible(80), 80);
-        dueThrow(x, "possible(81)", INDEX, () -> x.possible(81));
         x.tell(0, 3, 0);
         due("possible codes", possibles(x), List.of(1, 2, 3, 6, 9, 18, 27, 54));
-        for (int place : new int[] {Integer.MIN_VALUE, -1, 8, Integer.MAX_VALUE}) {
-            dueThrow(x, "possible(" + place + ")", INDEX, () -> x.possible(place));
-        }
-        x.tell(0, 2, 2);
-        dueThrow(x, "possible(0) of none", INDEX, () -> x.possible(0));
     }
 
     private static void promise15() {
@@ -419,15 +286,8 @@ public final class PromisesTest {
         x.tell(1, 4, 0);
         due("have(3, 1)", x.have(3, 1), 1);
         due("have(0, 1)", x.have(0, 1), 0);
-        for (int place : NO_PLACES) {
-            dueThrow(x, "have(" + place + ", 0)", INDEX, () -> x.have(place, 0));
-        }
-        for (int colour : new int[] {Integer.MIN_VALUE, -1, 3, Integer.MAX_VALUE}) {
-            dueThrow(x, "have(0, " + colour + ")", INDEX, () -> x.have(0, colour));
-        }
         HiddenCandles two = ofTwo();
         due("have(0, 1) of two", two.have(0, 1), 8);
-        dueThrow(two, "have(0, 2) of two", INDEX, () -> two.have(0, 2));
     }
 
     private static void promise16() {
@@ -445,9 +305,6 @@ public final class PromisesTest {
         for (int place = 0; place < 4; place++) {
             due("sure(" + place + ") of none", x.sure(place), -1);
         }
-        for (int place : NO_PLACES) {
-            dueThrow(x, "sure(" + place + ")", INDEX, () -> x.sure(place));
-        }
     }
 
     private static void promise17() {
@@ -461,12 +318,8 @@ public final class PromisesTest {
         due("worst(80) of eight", x.worst(80), 4);
         x.tell(0, 0, 0);
         due("worst(0) of none", x.worst(0), 0);
-        for (int code : NO_CODES_OF_THREE) {
-            dueThrow(x, "worst(" + code + ")", INDEX, () -> x.worst(code));
-        }
         HiddenCandles two = ofTwo();
         due("worst(0) of two", two.worst(0), 6);
-        dueThrow(two, "worst(16) of two", INDEX, () -> two.worst(16));
     }
 
     private static void promise18() {
@@ -480,12 +333,8 @@ public final class PromisesTest {
         due("parts(1) of eight", x.parts(1), 4);
         x.tell(0, 0, 0);
         due("parts(0) of none", x.parts(0), 0);
-        for (int code : NO_CODES_OF_THREE) {
-            dueThrow(x, "parts(" + code + ")", INDEX, () -> x.parts(code));
-        }
         HiddenCandles two = ofTwo();
         due("parts(0) of two", two.parts(0), 5);
-        dueThrow(two, "parts(16) of two", INDEX, () -> two.parts(16));
     }
 
     private static void promise19() {
@@ -525,20 +374,10 @@ public final class PromisesTest {
         due("takes(2, 0) of two", two.takes(2, 0), 3);
         due("takes(4, 0) of two", two.takes(4, 0), 4);
         due("takes(8, 0) of two", two.takes(8, 0), 5);
-        String before = state(x);
-        x.takes(79, 1);
-        due("the state behind takes(79, 1)", state(x), before);
         x.hide(3);
         x.tell(3, 0, 0);
         x.tell(3, 4, 0);
         due("takes(50, 4), whatever was told", x.takes(50, 4), 3);
-        for (int code : NO_CODES_OF_THREE) {
-            dueThrow(x, "takes(" + code + ", 0)", INDEX, () -> x.takes(code, 0));
-            dueThrow(x, "takes(0, " + code + ")", INDEX, () -> x.takes(0, code));
-            dueThrow(x, "takes(" + code + ", " + code + ")", INDEX, () -> x.takes(code, code));
-        }
-        dueThrow(two, "takes(0, 16) of two", INDEX, () -> two.takes(0, 16));
-        dueThrow(two, "takes(16, 0) of two", INDEX, () -> two.takes(16, 0));
     }
 
     private static void promise21() {
