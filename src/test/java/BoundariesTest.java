@@ -339,23 +339,31 @@ public final class BoundariesTest {
 
     @Says(promise = 1, words = "Creates candles")
     private static void promise01EachObjectIsNewWhateverOthersHave() {
-        String before = whatIsThere(new HiddenCandles());
-        State.TWO_COLOURS_FULL.make();
-        State.FULL.make();
-        due("another object", whatIsThere(new HiddenCandles()), before);
+        HiddenCandles x = new HiddenCandles();
+        String before = whatIsThere(x);
+        HiddenCandles full = State.TWO_COLOURS_FULL.make();
+        String fullBefore = whatIsThere(full);
+        due("an object made ahead of another one", whatIsThere(x), before);
+        due("an object made behind it", whatIsThere(new HiddenCandles()), before);
+        due("the one between them", whatIsThere(full), fullBefore);
     }
 
     @Says(promise = 1, words = "An object is used for at most 512 calls after it has been made")
     private static void promise01TheLastOf512CallsIsAnswered() {
-        HiddenCandles x = State.FULL.make();
-        // 25 calls made it.
-        for (int call = 25; call < 511; call += 2) {
-            due("forget()", x.forget(), call == 25 ? 12 : 40);
-            due("tell(40, 4, 0)", x.tell(40, 4, 0), answer(State.ELEVEN.make(), y -> y.tell(40, 4, 0)));
+        HiddenCandles x = new HiddenCandles();
+        // As many guesses as 512 calls can make: behind each twelve the colours are taken again.
+        for (int call = 1; call <= 511; call++) {
+            if (call % 13 == 0) {
+                due("call " + call + ", setColours(3)", x.setColours(3), 3);
+            } else {
+                due("call " + call + ", tell(80, 4, 0)", x.tell(80, 4, 0), 1);
+            }
         }
-        HiddenCandles y = State.ELEVEN.make();
-        y.tell(40, 4, 0);
-        due("digest()", x.digest(), y.digest());
+        HiddenCandles y = new HiddenCandles();
+        for (int guess = 0; guess < 511 % 13; guess++) {
+            y.tell(80, 4, 0);
+        }
+        due("call 512, digest()", x.digest(), y.digest());
     }
 
     // ---- promise 2: setColours
@@ -1046,7 +1054,8 @@ public final class BoundariesTest {
     private static void promise11RefusesWhatIsNoGuess() {
         for (int what = 0; what <= 5; what++) {
             int asked = what;
-            refused(State::isAny, INDEX, State::noGuesses, "told(.., " + what + ")", (x, guess) -> x.told(guess, asked));
+            String call = "told(.., " + what + ")";
+            refused(State::isAny, INDEX, State::noGuesses, call, (x, guess) -> x.told(guess, asked));
         }
     }
 
